@@ -25,6 +25,10 @@ public final class MeasuresTest {
         x.begin(80);
         x.chain(2);
         check.dueExactly("34: a chain of 80", x.meanRow(2), 79.0 / 80.0);
+        x.begin(1);
+        x.oppose(1);
+        check.dueExactly("34: one element", x.meanRow(1), 1.0);
+        check.dueExactly("34: one element, no pair", x.meanRow(0), 0.0);
         check.refusesIndex("34: relation 4", () -> x.meanRow(4));
         check.refusesIndex("34: relation -1", () -> x.meanRow(-1));
     }
@@ -43,6 +47,10 @@ public final class MeasuresTest {
         x.oppose(3);
         x.set(3, 64, 64, false);
         check.dueExactly("35: all but one of 65", x.share(3), 4224.0f / 4225.0f);
+        x.begin(1);
+        x.oppose(1);
+        check.dueExactly("35: one element", x.share(1), 1.0f);
+        check.dueExactly("35: one element, no pair", x.share(0), 0.0f);
         check.refusesIndex("35: relation 4", () -> x.share(4));
         check.refusesIndex("35: relation -1", () -> x.share(-1));
     }
@@ -77,7 +85,7 @@ public final class MeasuresTest {
 
     // At most 170 of an object's 512 calls, so that the state can be looked at twice.
     private static long stateOf(Relationrows x, int size) {
-        long state = x.endOfMarks();
+        long state = x.endOfMarks() * 81L + x.mark(0, 0, true);
         for (int relation = 0; relation < 4; relation++) {
             state = state * 31 + x.count(relation);
             for (int from = relation % 2; from < size; from += size < 20 ? 1 : 4) {

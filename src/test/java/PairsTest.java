@@ -106,7 +106,9 @@ public final class PairsTest {
         check.due("4: 63 to 65 away", x.setRange(1, 6, 63, 65, false), 78);
         check.due("4: word 0", x.wordOf(1, 6, 0), Long.MAX_VALUE);
         check.due("4: word 1", x.wordOf(1, 6, 1), 0xfffeL);
+        check.due("4: another row between", x.setRange(1, 7, 3, 5, true), 2);
         check.due("4: there already", x.setRange(1, 6, 10, 20, true), 78);
+        check.due("4: the other row away", x.setRange(1, 7, 0, 80, false), 0);
         check.due("4: empty at 0", x.setRange(1, 6, 0, 0, false), 78);
         check.due("4: empty at 64", x.setRange(1, 6, 64, 64, true), 78);
         check.due("4: empty at the end", x.setRange(1, 6, 80, 80, true), 78);
@@ -136,7 +138,9 @@ public final class PairsTest {
         check.due("5: word 0", x.wordOf(3, 79, 0), -1L >>> 2);
         check.due("5: word 1", x.wordOf(3, 79, 1), 0xfffcL);
         check.due("5: both ways", x.flipRange(3, 79, 60, 66), 78);
+        check.due("5: another row between", x.flipRange(3, 10, 5, 20), 15);
         check.due("5: full back", x.flipRange(3, 79, 0, 80), 2);
+        check.due("5: the other row", x.flipRange(3, 10, 5, 20), 0);
         check.due("5: has 60", x.has(3, 79, 60), true);
         check.due("5: has 61", x.has(3, 79, 61), true);
         check.due("5: empty", x.flipRange(3, 79, 80, 80), 2);
