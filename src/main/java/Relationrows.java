@@ -111,7 +111,7 @@ public final class Relationrows {
         Relation found = relationAt(relation);
         checkElement(from);
         row.clear();
-        row.low = bits;
+        row.low = bits & Bits.lowRange(0, elements);
         found.putRow(from, row);
         return found.sizeOf(from);
     }
@@ -407,7 +407,7 @@ public final class Relationrows {
         return elements < 1 ? 0.0f : pairs / (float) (elements * elements);
     }
 
-    /** Checks the theorem with the relations 0 to 2. Returns how many things are not as it tells. */
+    /** Checks the theorem with the relations 0 to 2. Returns how many things are wrong. */
     public int errors() {
         int wrong = 0;
         for (int i = 0; i < CHECKED_RELATIONS; i++) {
@@ -523,12 +523,17 @@ public final class Relationrows {
         }
 
         int leastFrom(int place) {
-            for (int element = place; element < MOST_ELEMENTS; element++) {
-                if (holds(element)) {
-                    return element;
-                }
+            long lowBits = low & ~below(place);
+            if (lowBits != 0L) {
+                return placeOfLeast(lowBits);
             }
-            return NONE;
+            long highBits = high & ~below(place - WORD);
+            return highBits == 0L ? NONE : WORD + placeOfLeast(highBits);
+        }
+
+        // The least bit that is 1, less 1, has as many ones as there are places below it.
+        private static int placeOfLeast(long bits) {
+            return Long.bitCount((bits & -bits) - 1L);
         }
 
         int greatestTo(int place) {
@@ -542,8 +547,8 @@ public final class Relationrows {
     }
 
     /**
-     * The rows of a relation. No row has an element from the number of elements on; rows from
-     * that number on are never asked.
+     * The rows of a relation. Who puts a row puts no element that does not exist; the rows of
+     * such elements are never asked.
      */
     private static final class Relation {
         private int elements = FIRST_ELEMENTS;
@@ -582,8 +587,8 @@ public final class Relationrows {
 
         private void putWords(int from, long lowBits, long highBits) {
             if (from >= 0 && from < low.length && from < high.length) {
-                low[from] = lowBits & Bits.lowRange(0, elements);
-                high[from] = highBits & Bits.highRange(0, elements);
+                low[from] = lowBits;
+                high[from] = highBits;
             }
         }
 
@@ -690,7 +695,9 @@ public final class Relationrows {
 
         void invert() {
             for (int from = 0; from < elements; from++) {
-                putWords(from, ~lowAt(from), ~highAt(from));
+                rowInto(from, row);
+                row.invert(0, elements);
+                putRow(from, row);
             }
         }
 
@@ -711,11 +718,11 @@ public final class Relationrows {
         void imageOf(Bits set, Bits into) {
             long lowBits = 0L;
             long highBits = 0L;
-            for (int from = 0; from < elements; from++) {
-                if (set.holds(from)) {
-                    lowBits |= lowAt(from);
-                    highBits |= highAt(from);
-                }
+            int from = set.leastFrom(0);
+            for (int passed = 0; passed < elements && from != NONE; passed++) {
+                lowBits |= lowAt(from);
+                highBits |= highAt(from);
+                from = set.leastFrom(from + 1);
             }
             into.low = lowBits;
             into.high = highBits;
@@ -799,6 +806,9 @@ public final class Relationrows {
     private static final class Walks {
         private final Bits reached = new Bits();
         private final Bits fresh = new Bits();
+        private final Bits left = new Bits();
+        private final Bits blocked = new Bits();
+        private final Bits free = new Bits();
         private final int[] order = new int[MOST_ELEMENTS];
 
         int stepsBetween(Relation relation, int from, int to) {
@@ -854,14 +864,14 @@ public final class Relationrows {
 
         /** Finds the first order that keeps a relation. Returns whether there is one. */
         boolean findOrder(Relation relation) {
-            Bits left = reached;
             int most = relation.elementsInside();
             left.clear();
             left.putRange(0, most, true);
             for (int place = 0; place < most && place < order.length; place++) {
-                relation.imageOf(left, fresh);
-                fresh.invert(0, most);
-                int next = leastOfBoth(left, fresh);
+                relation.imageOf(left, blocked);
+                free.become(left);
+                free.remove(blocked);
+                int next = free.leastFrom(0);
                 if (next == NONE) {
                     return false;
                 }
@@ -869,15 +879,6 @@ public final class Relationrows {
                 left.putRange(next, next + 1, false);
             }
             return true;
-        }
-
-        private static int leastOfBoth(Bits one, Bits other) {
-            for (int element = 0; element < MOST_ELEMENTS; element++) {
-                if (one.holds(element) && other.holds(element)) {
-                    return element;
-                }
-            }
-            return NONE;
         }
 
         /** Returns an element of the order that was found last. */
