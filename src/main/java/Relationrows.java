@@ -524,16 +524,13 @@ public final class Relationrows {
 
         int leastFrom(int place) {
             long lowBits = low & ~below(place);
-            if (lowBits != 0L) {
-                return placeOfLeast(lowBits);
+            long bits = lowBits != 0L ? lowBits : high & ~below(place - WORD);
+            if (bits == 0L) {
+                return NONE;
             }
-            long highBits = high & ~below(place - WORD);
-            return highBits == 0L ? NONE : WORD + placeOfLeast(highBits);
-        }
-
-        // The least bit that is 1, less 1, has as many ones as there are places below it.
-        private static int placeOfLeast(long bits) {
-            return Long.bitCount((bits & -bits) - 1L);
+            // The least bit that is 1, less 1, has as many ones as there are places below it.
+            int least = Long.bitCount((bits & -bits) - 1L);
+            return lowBits != 0L ? least : WORD + least;
         }
 
         int greatestTo(int place) {

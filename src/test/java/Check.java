@@ -3,9 +3,19 @@ final class Check {
     private final String name;
     private int made = 0;
     private int wrong = 0;
+    private String subject = "";
 
     Check(String name) {
         this.name = name;
+    }
+
+    /** Tells what the checks from here on are about. */
+    void about(String newSubject) {
+        subject = newSubject;
+    }
+
+    int made() {
+        return made;
     }
 
     void due(String call, long got, long want) {
@@ -73,7 +83,7 @@ final class Check {
     private void tell(String text) {
         wrong++;
         if (wrong <= 40) {
-            System.out.println(name + ": " + text);
+            System.out.println(name + ": " + subject + text);
         }
     }
 }

@@ -102,6 +102,10 @@ public final class FaceTest {
             check.due(inside + " is static", Modifier.isStatic(signs), true);
             check.due(inside + " is hidden",
                     Modifier.isPublic(signs) || Modifier.isProtected(signs), false);
+            for (Method method : inside.getDeclaredMethods()) {
+                check.due(inside + "." + method.getName() + " bears a public name",
+                        publicNames.contains(method.getName()), false);
+            }
         }
         check.due("NONE", Relationrows.NONE, -1);
         check.end();

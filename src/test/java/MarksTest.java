@@ -4,12 +4,6 @@ import java.util.NoSuchElementException;
 public final class MarksTest {
     private static final Check check = new Check("MarksTest");
 
-    private static Relationrows madeWith(int elements) {
-        Relationrows x = new Relationrows();
-        x.begin(elements);
-        return x;
-    }
-
     private static void dueMarked(String name, Relationrows x, int... due) {
         for (int i = 0; i < due.length; i++) {
             check.due(name + " at " + i, x.markedAt(i), due[i]);
@@ -20,7 +14,7 @@ public final class MarksTest {
     }
 
     private static void promise30Mark() {
-        Relationrows x = madeWith(80);
+        Relationrows x = Made.of(80);
         check.due("30: all", x.mark(0, 80, true), 80);
         check.due("30: a part away", x.mark(2, 78, false), 4);
         dueMarked("30: the rest", x, 0, 1, 78, 79);
@@ -36,7 +30,7 @@ public final class MarksTest {
         check.refusesIndex("30: both above", () -> x.mark(81, 81, false));
         check.refusesIndex("30: far", () -> x.mark(Integer.MIN_VALUE, Integer.MAX_VALUE, false));
         dueMarked("30: a refused mark changes nothing", x, 0, 1, 63, 64, 78, 79);
-        Relationrows one = madeWith(1);
+        Relationrows one = Made.of(1);
         check.due("30: one element", one.mark(0, 1, true), 1);
         check.due("30: one element", one.mark(1, 1, false), 1);
         check.due("30: pairs stay", x.count(0), 0);
@@ -46,7 +40,7 @@ public final class MarksTest {
     }
 
     private static void promise31Spread() {
-        Relationrows x = madeWith(80);
+        Relationrows x = Made.of(80);
         x.chain(0);
         x.mark(63, 64, true);
         x.mark(79, 80, true);
@@ -68,7 +62,7 @@ public final class MarksTest {
         check.due("31: no pairs", x.spread(1, false), 0);
         check.due("31: no marks", x.spread(0, true), 0);
         check.due("31: pairs stay", x.count(0), 79);
-        Relationrows one = madeWith(1);
+        Relationrows one = Made.of(1);
         one.mark(0, 1, true);
         one.set(3, 0, 0, true);
         check.due("31: one element", one.spread(3, false), 1);
@@ -76,7 +70,7 @@ public final class MarksTest {
     }
 
     private static void promise32MarkedAt() {
-        Relationrows x = madeWith(80);
+        Relationrows x = Made.of(80);
         check.refuses("32: none", NoSuchElementException.class, () -> x.markedAt(0));
         x.mark(5, 6, true);
         x.mark(63, 66, true);
@@ -92,7 +86,7 @@ public final class MarksTest {
     }
 
     private static void promise33EndOfMarks() {
-        Relationrows x = madeWith(80);
+        Relationrows x = Made.of(80);
         check.due("33: none", x.endOfMarks(), 0);
         x.mark(0, 1, true);
         check.due("33: the first", x.endOfMarks(), 1);

@@ -2,14 +2,8 @@
 public final class MeasuresTest {
     private static final Check check = new Check("MeasuresTest");
 
-    private static Relationrows madeWith(int elements) {
-        Relationrows x = new Relationrows();
-        x.begin(elements);
-        return x;
-    }
-
     private static void promise34MeanRow() {
-        Relationrows x = madeWith(3);
+        Relationrows x = Made.of(3);
         check.dueExactly("34: no pairs", x.meanRow(0), 0.0);
         x.chain(0);
         check.dueExactly("34: 2 pairs of 3", x.meanRow(0), 2.0 / 3.0);
@@ -34,7 +28,7 @@ public final class MeasuresTest {
     }
 
     private static void promise35Share() {
-        Relationrows x = madeWith(3);
+        Relationrows x = Made.of(3);
         check.dueExactly("35: no pairs", x.share(0), 0.0f);
         x.chain(0);
         check.dueExactly("35: 2 pairs of 9", x.share(0), 2.0f / 9.0f);
@@ -60,7 +54,7 @@ public final class MeasuresTest {
         int[] draws = {0, 3, 20, 70, 150, 200};
         for (int size : sizes) {
             for (int i = 0; i < draws.length; i++) {
-                Relationrows x = madeWith(size);
+                Relationrows x = Made.of(size);
                 x.draw(0, i + 1, draws[i]);
                 x.draw(1, i + 77, draws[draws.length - 1 - i]);
                 x.chain(2);
@@ -72,7 +66,7 @@ public final class MeasuresTest {
                 check.due("36: errors changes nothing", stateOf(x, size), before);
             }
         }
-        Relationrows order = madeWith(80);
+        Relationrows order = Made.of(80);
         order.chain(0);
         order.close(0, false);
         order.chain(1);

@@ -2,12 +2,6 @@
 public final class PairsTest {
     private static final Check check = new Check("PairsTest");
 
-    private static Relationrows madeWith(int elements) {
-        Relationrows x = new Relationrows();
-        x.begin(elements);
-        return x;
-    }
-
     private static void promise1NewObject() {
         Relationrows x = new Relationrows();
         for (int relation = 0; relation < 4; relation++) {
@@ -60,7 +54,7 @@ public final class PairsTest {
     }
 
     private static void promise3Set() {
-        Relationrows x = madeWith(80);
+        Relationrows x = Made.of(80);
         int[] places = {0, 1, 31, 32, 33, 62, 63, 64, 65, 78, 79};
         for (int from : places) {
             for (int to : places) {
@@ -90,7 +84,7 @@ public final class PairsTest {
     }
 
     private static void promise4SetRange() {
-        Relationrows x = madeWith(80);
+        Relationrows x = Made.of(80);
         check.due("4: full", x.setRange(1, 5, 0, 80, true), 80);
         check.due("4: count", x.count(1), 80);
         check.due("4: middle away", x.setRange(1, 5, 60, 70, false), 70);
@@ -122,7 +116,7 @@ public final class PairsTest {
         check.refusesIndex("4: both below", () -> x.setRange(1, 6, -1, -1, false));
         check.due("4: a refused setRange changes nothing", x.countOf(1, 6), 78);
         check.due("4: other rows", x.count(1), 148);
-        Relationrows one = madeWith(1);
+        Relationrows one = Made.of(1);
         check.due("4: one element", one.setRange(0, 0, 0, 1, true), 1);
         check.due("4: one element, empty", one.setRange(0, 0, 1, 1, false), 1);
         check.due("4: one element, away", one.setRange(0, 0, 0, 1, false), 0);
@@ -132,7 +126,7 @@ public final class PairsTest {
     }
 
     private static void promise5FlipRange() {
-        Relationrows x = madeWith(80);
+        Relationrows x = Made.of(80);
         check.due("5: full", x.flipRange(3, 79, 0, 80), 80);
         check.due("5: a part", x.flipRange(3, 79, 62, 66), 76);
         check.due("5: word 0", x.wordOf(3, 79, 0), -1L >>> 2);
@@ -153,28 +147,28 @@ public final class PairsTest {
         check.refusesIndex("5: first above end", () -> x.flipRange(3, 79, 1, 0));
         check.due("5: a refused flipRange changes nothing", x.countOf(3, 79), 2);
         check.due("5: other rows", x.count(3), 2);
-        Relationrows one = madeWith(1);
+        Relationrows one = Made.of(1);
         check.due("5: one element", one.flipRange(0, 0, 0, 1), 1);
         check.due("5: one element back", one.flipRange(0, 0, 0, 1), 0);
     }
 
     private static void promise6SetRow() {
-        Relationrows x = madeWith(80);
+        Relationrows x = Made.of(80);
         x.setRange(0, 4, 0, 80, true);
         check.due("6: by a number", x.setRow(0, 4, 0x8000000000000005L), 3);
         check.due("6: word 0", x.wordOf(0, 4, 0), 0x8000000000000005L);
         check.due("6: word 1", x.wordOf(0, 4, 1), 0L);
         check.due("6: all bits", x.setRow(0, 4, -1L), 64);
         check.due("6: none", x.setRow(0, 4, 0L), 0);
-        Relationrows full = madeWith(64);
+        Relationrows full = Made.of(64);
         check.due("6: 64 elements", full.setRow(2, 63, -1L), 64);
-        Relationrows less = madeWith(63);
+        Relationrows less = Made.of(63);
         check.due("6: 63 elements", less.setRow(2, 62, -1L), 63);
         check.due("6: no bit 63", less.wordOf(2, 62, 0), Long.MAX_VALUE);
-        Relationrows more = madeWith(65);
+        Relationrows more = Made.of(65);
         check.due("6: 65 elements", more.setRow(2, 64, -1L), 64);
         check.due("6: not 64", more.has(2, 64, 64), false);
-        Relationrows one = madeWith(1);
+        Relationrows one = Made.of(1);
         check.due("6: one element", one.setRow(2, 0, 6L), 0);
         check.due("6: one element", one.setRow(2, 0, 7L), 1);
         check.refusesIndex("6: relation 4", () -> one.setRow(4, 0, 0L));
@@ -189,16 +183,16 @@ public final class PairsTest {
     }
 
     private static void promise7Chain() {
-        Relationrows x = madeWith(80);
+        Relationrows x = Made.of(80);
         check.due("7: 80 elements", x.chain(2), 79);
         check.due("7: again", x.chain(2), 79);
         for (int from = 0; from < 80; from++) {
             check.due("7: row " + from, x.countOf(2, from), from == 79 ? 0 : 1);
             check.due("7: next " + from, from == 79 || x.has(2, from, from + 1), true);
         }
-        check.due("7: 1 element", madeWith(1).chain(0), 0);
-        check.due("7: 2 elements", madeWith(2).chain(0), 1);
-        check.due("7: 65 elements", madeWith(65).chain(0), 64);
+        check.due("7: 1 element", Made.of(1).chain(0), 0);
+        check.due("7: 2 elements", Made.of(2).chain(0), 1);
+        check.due("7: 65 elements", Made.of(65).chain(0), 64);
         Relationrows y = new Relationrows();
         y.set(1, 3, 0, true);
         y.set(1, 3, 4, true);
@@ -246,7 +240,7 @@ public final class PairsTest {
             pairs += due[from][to] ? 0 : 1;
             due[from][to] = true;
         }
-        Relationrows x = madeWith(size);
+        Relationrows x = Made.of(size);
         String call = "8: draw(1, " + seed + ", " + many + ") of " + size;
         check.due(call, x.draw(1, seed, many), pairs);
         for (int from = 0; from < size; from++) {

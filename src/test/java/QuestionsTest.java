@@ -2,21 +2,9 @@
 public final class QuestionsTest {
     private static final Check check = new Check("QuestionsTest");
 
-    private static Relationrows madeWith(int elements) {
-        Relationrows x = new Relationrows();
-        x.begin(elements);
-        return x;
-    }
-
-    private static void give(Relationrows x, int relation, int... pairs) {
-        for (int i = 0; i + 1 < pairs.length; i += 2) {
-            x.set(relation, pairs[i], pairs[i + 1], true);
-        }
-    }
-
     private static void promise16Has() {
-        Relationrows x = madeWith(80);
-        give(x, 3, 0, 64, 64, 0, 79, 79, 63, 63);
+        Relationrows x = Made.of(80);
+        Made.give(x, 3, 0, 64, 64, 0, 79, 79, 63, 63);
         check.due("16: 0, 64", x.has(3, 0, 64), true);
         check.due("16: 0, 0", x.has(3, 0, 0), false);
         check.due("16: 64, 0", x.has(3, 64, 0), true);
@@ -31,14 +19,14 @@ public final class QuestionsTest {
         check.refusesIndex("16: from -1", () -> x.has(3, -1, 0));
         check.refusesIndex("16: to 80", () -> x.has(3, 0, 80));
         check.refusesIndex("16: to -1", () -> x.has(3, 0, -1));
-        Relationrows less = madeWith(64);
+        Relationrows less = Made.of(64);
         check.refusesIndex("16: to 64 of 64", () -> less.has(0, 0, 64));
     }
 
     private static void promise17Count() {
-        Relationrows x = madeWith(80);
+        Relationrows x = Made.of(80);
         check.due("17: none", x.count(1), 0);
-        give(x, 1, 0, 0, 79, 79, 79, 63, 79, 64);
+        Made.give(x, 1, 0, 0, 79, 79, 79, 63, 79, 64);
         check.due("17: some", x.count(1), 4);
         check.due("17: others", x.count(0) + x.count(2) + x.count(3), 0);
         x.oppose(1);
@@ -49,7 +37,7 @@ public final class QuestionsTest {
     }
 
     private static void promise18CountOf() {
-        Relationrows x = madeWith(80);
+        Relationrows x = Made.of(80);
         x.setRange(2, 64, 60, 80, true);
         x.setRange(2, 63, 0, 3, true);
         check.due("18: row 64", x.countOf(2, 64), 20);
@@ -71,7 +59,7 @@ public final class QuestionsTest {
             besideAsLooked(size, 5);
             besideAsLooked(size, 6);
         }
-        Relationrows x = madeWith(80);
+        Relationrows x = Made.of(80);
         for (int how = 0; how < 4; how++) {
             int none = how == 0 || how == 2 ? Relationrows.NONE : 40;
             check.due("19: an empty row", x.beside(0, 1, 40, how), none);
@@ -98,7 +86,7 @@ public final class QuestionsTest {
 
     private static void besideAsLooked(int size, int part) {
         boolean[] in = new boolean[size];
-        Relationrows x = madeWith(size);
+        Relationrows x = Made.of(size);
         for (int to = 0; to < size; to++) {
             in[to] = to * to % part < 2;
             x.set(1, size - 1, to, in[to]);
@@ -118,8 +106,8 @@ public final class QuestionsTest {
     }
 
     private static void promise20WordOf() {
-        Relationrows x = madeWith(80);
-        give(x, 0, 7, 0, 7, 63, 7, 64, 7, 79);
+        Relationrows x = Made.of(80);
+        Made.give(x, 0, 7, 0, 7, 63, 7, 64, 7, 79);
         check.due("20: word 0", x.wordOf(0, 7, 0), 0x8000000000000001L);
         check.due("20: word 1", x.wordOf(0, 7, 1), 0x8001L);
         check.due("20: another row", x.wordOf(0, 6, 0), 0L);
@@ -130,20 +118,20 @@ public final class QuestionsTest {
         check.refusesIndex("20: relation -1", () -> x.wordOf(-1, 7, 0));
         check.refusesIndex("20: from before word", () -> x.wordOf(0, 80, -1));
         check.refusesIndex("20: from -1", () -> x.wordOf(0, -1, 0));
-        Relationrows less = madeWith(12);
+        Relationrows less = Made.of(12);
         less.oppose(3);
         check.due("20: word 0 of 12", less.wordOf(3, 0, 0), 4095L);
         check.due("20: word 1 of 12", less.wordOf(3, 0, 1), 0L);
-        Relationrows more = madeWith(65);
+        Relationrows more = Made.of(65);
         more.oppose(3);
         check.due("20: word 0 of 65", more.wordOf(3, 64, 0), -1L);
         check.due("20: word 1 of 65", more.wordOf(3, 64, 1), 1L);
     }
 
     private static void promise21Meet() {
-        Relationrows x = madeWith(80);
-        give(x, 0, 1, 63, 1, 64, 2, 79, 3, 5);
-        give(x, 1, 4, 63, 5, 64, 6, 79, 7, 5, 7, 6, 8, 15, 9, 0);
+        Relationrows x = Made.of(80);
+        Made.give(x, 0, 1, 63, 1, 64, 2, 79, 3, 5);
+        Made.give(x, 1, 4, 63, 5, 64, 6, 79, 7, 5, 7, 6, 8, 15, 9, 0);
         check.due("21: by 63", x.meet(0, 1, 1, 4), true);
         check.due("21: by 64", x.meet(0, 1, 1, 5), true);
         check.due("21: by 79", x.meet(0, 2, 1, 6), true);
@@ -166,22 +154,22 @@ public final class QuestionsTest {
     }
 
     private static void promise22Compare() {
-        Relationrows x = madeWith(80);
+        Relationrows x = Made.of(80);
         check.due("22: both empty", x.compare(0, 1), 0);
-        give(x, 0, 70, 79);
+        Made.give(x, 0, 70, 79);
         check.due("22: more in the high word", x.compare(0, 1), 1);
         check.due("22: less in the high word", x.compare(1, 0), 2);
-        give(x, 1, 70, 79, 79, 3);
+        Made.give(x, 1, 70, 79, 79, 3);
         check.due("22: less in the low word", x.compare(0, 1), 2);
         check.due("22: more in the low word", x.compare(1, 0), 1);
-        give(x, 0, 0, 0);
+        Made.give(x, 0, 0, 0);
         check.due("22: each has its own", x.compare(0, 1), 3);
         check.due("22: each has its own", x.compare(1, 0), 3);
-        give(x, 1, 0, 0);
-        give(x, 0, 79, 3);
+        Made.give(x, 1, 0, 0);
+        Made.give(x, 0, 79, 3);
         check.due("22: the same", x.compare(0, 1), 0);
         check.due("22: with itself", x.compare(1, 1), 0);
-        give(x, 2, 5, 5);
+        Made.give(x, 2, 5, 5);
         check.due("22: nothing shared", x.compare(0, 2), 3);
         check.refusesIndex("22: relation 4", () -> x.compare(4, 0));
         check.refusesIndex("22: relation -1", () -> x.compare(-1, 0));
@@ -199,7 +187,7 @@ public final class QuestionsTest {
     }
 
     private static void promise23Is() {
-        Relationrows x = madeWith(80);
+        Relationrows x = Made.of(80);
         dueTraits("no pairs", x, 0, "nyyyyn");
         x.oppose(0);
         dueTraits("all pairs", x, 0, "ynynyy");
@@ -220,20 +208,20 @@ public final class QuestionsTest {
         dueTraits("an order but a pair", x, 1, "ynnyyn");
         x.set(1, 0, 79, false);
         dueTraits("an order but two pairs", x, 1, "ynnynn");
-        give(x, 2, 70, 70);
+        Made.give(x, 2, 70, 70);
         dueTraits("one own pair", x, 2, "nnyyyn");
-        give(x, 2, 70, 3);
+        Made.give(x, 2, 70, 3);
         dueTraits("own pair and a pair", x, 2, "nnnyyn");
-        give(x, 2, 3, 70);
+        Made.give(x, 2, 3, 70);
         dueTraits("two steps back to 3", x, 2, "nnynnn");
-        give(x, 2, 3, 3);
+        Made.give(x, 2, 3, 3);
         dueTraits("a class of two", x, 2, "nnynyn");
         x.begin(1);
         dueTraits("one element, no pair", x, 0, "nyyyyy");
         x.set(0, 0, 0, true);
         dueTraits("one element and its pair", x, 0, "ynyyyy");
         x.begin(3);
-        give(x, 3, 0, 1, 1, 2, 2, 0);
+        Made.give(x, 3, 0, 1, 1, 2, 2, 0);
         dueTraits("a ring of three", x, 3, "nynyny");
         check.refusesArgument("23: what -1", () -> x.is(0, -1));
         check.refusesArgument("23: what 6", () -> x.is(0, 6));
