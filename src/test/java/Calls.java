@@ -28,6 +28,7 @@ final class Calls {
 
     static final String INDEX = "throws.IndexOutOfBoundsException";
     static final String ARGUMENT = "throws.IllegalArgumentException";
+    static final String NO_ELEMENT = "throws.NoSuchElementException";
 
     // The kinds of arguments: n how many elements, r a relation, e an element, f and g the ends
     // of a range, m how many draws, h one of four ways, w a word, q a question, a any number,
@@ -170,6 +171,50 @@ final class Calls {
         }
         calls.removeIf(call -> isTurnedRange(call.arguments));
         return calls;
+    }
+
+    /** The calls with each number that one argument can be, and the least ones besides. */
+    List<Call> withEach(int place, int elements) {
+        List<Call> calls = new ArrayList<>();
+        char kind = kinds.charAt(place);
+        if (kind == 'a') {
+            for (int any = 1; any != 0; any <<= 1) {
+                calls.add(with(allLeast(), place, any));
+                calls.add(with(allLeast(), place, any - 1));
+                calls.add(with(allLeast(), place, ~any));
+            }
+            return calls;
+        }
+        for (int value = least(kind); value <= most(kind, elements); value++) {
+            Call call = with(allLeast(), place, value);
+            if (kind == 'f') {
+                call.arguments[place + 1] = elements;
+            }
+            calls.add(call);
+        }
+        return calls;
+    }
+
+    /** The calls with the numbers just beside those that one argument can be. */
+    List<Call> withEachBeside(int place, int elements) {
+        List<Call> calls = new ArrayList<>();
+        char kind = kinds.charAt(place);
+        if (!refusalOf(kind).isEmpty()) {
+            calls.add(with(allLeast(), place, least(kind) - 1));
+            calls.add(with(allLeast(), place, most(kind, elements) + 1));
+        }
+        return calls;
+    }
+
+    /** What is thrown for a wrong argument of a kind; nothing if none is wrong. */
+    static String refusalOf(char kind) {
+        if (kind == 'i') {
+            return NO_ELEMENT;
+        }
+        if (INDEX_KINDS.indexOf(kind) >= 0) {
+            return INDEX;
+        }
+        return OPTION_KINDS.indexOf(kind) >= 0 ? ARGUMENT : "";
     }
 
     private boolean isTurnedRange(int[] a) {

@@ -1,6 +1,6 @@
 import java.util.NoSuchElementException;
 
-/** The edges that the promises 30 to 36 name: marks, measures and the theorem. */
+/** The edges that the promises 30 to 33 name: marks. */
 final class EdgesOfMarks extends EdgeTests {
     EdgesOfMarks(Edges edges) {
         super(edges);
@@ -12,9 +12,6 @@ final class EdgesOfMarks extends EdgeTests {
         spread();
         markedAt();
         endOfMarks();
-        meanRow();
-        share();
-        errors();
     }
 
     private void dueNone(String call, Relationrows x, int index) {
@@ -176,83 +173,6 @@ final class EdgesOfMarks extends EdgeTests {
                 x.mark(0, size, false);
                 check.due("taken away, " + size, x.endOfMarks(), 0);
             }
-        });
-    }
-
-    private void meanRow() {
-        edges.at("Promise 34");
-        edges.says("Returns the mean number of elements of the rows of a relation.", () -> {
-            for (int size : SIZES) {
-                check.dueExactly("no pairs of " + size, Made.of(size).meanRow(0), 0.0);
-                check.dueExactly("all pairs of " + size, Made.full(size).meanRow(0), size);
-            }
-        });
-        edges.says("Returns the number of pairs converted to double, divided by the number of "
-                + "elements, converted to double.", () -> {
-            for (int size = 1; size <= 80; size++) {
-                Relationrows x = Made.with(size, 0, size - 1);
-                check.dueExactly("one pair of " + size, x.meanRow(0), 1.0 / size);
-                x.oppose(0);
-                check.dueExactly("all but one of " + size, x.meanRow(0),
-                        (size * size - 1.0) / size);
-            }
-        });
-        edges.refusesIndex("Throws `IndexOutOfBoundsException` if there is no such relation",
-                "meanRow");
-    }
-
-    private void share() {
-        edges.at("Promise 35");
-        edges.says("Returns how much of all pairs that there could be a relation has.", () -> {
-            for (int size : SIZES) {
-                check.dueExactly("no pairs of " + size, Made.of(size).share(0), 0.0f);
-                check.dueExactly("all pairs of " + size, Made.full(size).share(0), 1.0f);
-            }
-        });
-        edges.says("Returns the number of its pairs converted to float, divided by the square of "
-                + "the number of elements, converted to float.", () -> {
-            for (int size = 1; size <= 80; size++) {
-                Relationrows x = Made.with(size, 0, size - 1);
-                check.dueExactly("one pair of " + size, x.share(0), 1.0f / (size * size));
-                x.oppose(0);
-                check.dueExactly("all but one of " + size, x.share(0),
-                        (size * size - 1.0f) / (size * size));
-            }
-        });
-        edges.refusesIndex("Throws `IndexOutOfBoundsException` if there is no such relation",
-                "share");
-    }
-
-    private void errors() {
-        edges.at("Promise 36");
-        edges.says("none of which changes", () -> {
-            for (int size : SIZES) {
-                Relationrows x = Calls.filled(size);
-                x.errors();
-                check.dueText("of " + size, Made.stateAndSize(x, size),
-                        Made.stateAndSize(Calls.filled(size), size));
-                Relationrows all = Made.full(size);
-                all.errors();
-                check.due("all pairs of " + size, all.count(0), size * size);
-            }
-        });
-        edges.says("Returns how many of these things are not as the theorem tells; always 0.",
-                () -> {
-            for (int size : SIZES) {
-                check.due("no pairs of " + size, Made.of(size).errors(), 0);
-                check.due("some pairs of " + size, Calls.filled(size).errors(), 0);
-                Relationrows x = Made.full(size);
-                check.due("all pairs once, of " + size, x.errors(), 0);
-                x.oppose(1);
-                x.oppose(2);
-                check.due("all pairs, of " + size, x.errors(), 0);
-                x.chain(0);
-                x.combine(0, 1, 3);
-                x.set(1, size - 1, 0, false);
-                x.close(2, true);
-                check.due("nearly all pairs, of " + size, x.errors(), 0);
-            }
-            check.due("a new object", new Relationrows().errors(), 0);
         });
     }
 }

@@ -1,3 +1,5 @@
+import java.util.Arrays;
+
 /** The edges that the promises 1 to 8 name: a new object, begin, and pairs. */
 final class EdgesOfPairs extends EdgeTests {
     private static final int[] SEEDS = {0, 1, -1, 7, 65536, Integer.MIN_VALUE, Integer.MAX_VALUE};
@@ -165,7 +167,8 @@ final class EdgesOfPairs extends EdgeTests {
 
     private void flipRange() {
         edges.at("Promise 5");
-        edges.says("those that were there are not, and the other way round", () -> {
+        edges.says("Turns the pairs from an element to all of a range: those that were there are "
+                + "not, and the other way round.", () -> {
             for (int size : SIZES) {
                 Relationrows x = Made.with(size, 0, 0);
                 x.flipRange(0, 0, 0, size);
@@ -195,7 +198,8 @@ final class EdgesOfPairs extends EdgeTests {
 
     private void setRow() {
         edges.at("Promise 6");
-        edges.says("it has just the elements k for which bit k of the number is 1", () -> {
+        edges.says("Sets the row of an element by a number: it has just the elements k for which "
+                + "bit k of the number is 1", () -> {
             Relationrows x = Made.of(80);
             for (int k = 0; k < 64; k++) {
                 check.due("bit " + k, x.setRow(0, 0, 1L << k), 1);
@@ -267,6 +271,22 @@ final class EdgesOfPairs extends EdgeTests {
 
     private void draw() {
         edges.at("Promise 8");
+        edges.says("for each of many draws, the seed is multiplied by 1103515245, and 12345 is "
+                + "added", () -> {
+            dueFirstDraws(0, 0, 76, 36, 5, 58, 15);
+            dueFirstDraws(1, 38, 46, 33, 43, 59, 75);
+            dueFirstDraws(-1, 57, 9, 22, 46, 73, 34);
+            dueFirstDraws(Integer.MAX_VALUE, 9, 57, 70, 78, 41, 66);
+        });
+        edges.says("the pair leads from the element that is the rest of (seed >>> 16) divided by "
+                + "the number of elements; then the same is done once more, for the element to "
+                + "which it leads.", () -> {
+            for (int seed : SEEDS) {
+                for (int size = 1; size <= 80; size++) {
+                    dueDraw(size, seed, 1);
+                }
+            }
+        });
         edges.says("both as ints that go round", () -> {
             for (int size : SIZES) {
                 for (int seed : SEEDS) {
@@ -307,6 +327,16 @@ final class EdgesOfPairs extends EdgeTests {
         edges.refusesIndex("Throws `IndexOutOfBoundsException` if there is no such relation",
                 "draw");
         edges.refusesArgument("Throws `IllegalArgumentException` if many is out of range", "draw");
+    }
+
+    private void dueFirstDraws(int seed, int... elements) {
+        for (int many = 0; many <= elements.length / 2; many++) {
+            Relationrows x = Made.of(80);
+            Relationrows due = Made.with(80, Arrays.copyOf(elements, many * 2));
+            String call = "seed " + seed + ", many " + many;
+            check.due(call, x.draw(0, seed, many), many);
+            check.dueText(call, Made.state(x, 80), Made.state(due, 80));
+        }
     }
 
     // Longs hold what ints would lose, so that the going round is told once more in other words.

@@ -106,8 +106,9 @@ final class EdgesOfRelations extends EdgeTests {
 
     private void compose() {
         edges.at("Promise 11");
-        edges.says("a pair of the first one leads from there to some element, and a pair of the "
-                + "second one from this to the other one", () -> {
+        edges.says("Composes two relations: a relation has then just the pairs from an element to "
+                + "another one for which a pair of the first one leads from there to some element, "
+                + "and a pair of the second one from this to the other one.", () -> {
             for (int between : new int[] {0, 63, 64, 79}) {
                 Relationrows x = Made.with(80, 79, between);
                 Made.give(x, 1, between, 64);

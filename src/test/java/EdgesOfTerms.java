@@ -147,8 +147,8 @@ final class EdgesOfTerms extends EdgeTests {
     }
 
     private void ranges() {
-        edges.says("those that are not less than the first one and less than the second one",
-                () -> {
+        edges.says("A range from one element up to another has those that are not less than the "
+                + "first one and less than the second one", () -> {
             int[] bounds = {0, 1, 31, 32, 33, 62, 63, 64, 65, 66, 78, 79, 80};
             for (int first : bounds) {
                 for (int end : bounds) {
@@ -248,8 +248,8 @@ final class EdgesOfTerms extends EdgeTests {
                 check.due("each element once", sum, size * (size + 1) / 2);
             }
         });
-        edges.says("the least element that was not taken yet and to which no pair leads from "
-                + "another element", () -> {
+        edges.says("The first order takes, again and again, the least element that was not taken "
+                + "yet and to which no pair leads from another element", () -> {
             Relationrows x = Made.with(5, 4, 1, 1, 0, 3, 2);
             int[] due = {3, 2, 4, 1, 0};
             for (int place = 0; place < 5; place++) {
@@ -283,8 +283,9 @@ final class EdgesOfTerms extends EdgeTests {
     }
 
     private void coversAndMarks() {
-        edges.says("for which no third element lies between: none to which the first one is "
-                + "related, and which is related to the second one, in the closure", () -> {
+        edges.says("A cover of a relation without a ring is a pair of its closure for which no "
+                + "third element lies between: none to which the first one is related, and which "
+                + "is related to the second one, in the closure.", () -> {
             Relationrows x = Made.with(80, 0, 64, 64, 79, 0, 79, 1, 2);
             check.due("a third one between", x.cover(0, 1), 3);
             check.due("a third one between", x.has(1, 0, 79), false);

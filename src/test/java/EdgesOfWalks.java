@@ -38,7 +38,8 @@ final class EdgesOfWalks extends EdgeTests {
                 check.due("a full one of " + size, Made.full(size).steps(0, size - 1, 0), 1);
             }
         });
-        edges.says("Returns the least number of steps of a walk", () -> {
+        edges.says("Returns the least number of steps of a walk from the first to the second",
+                () -> {
             Relationrows x = chained(80);
             check.due("the whole chain", x.steps(0, 0, 79), 79);
             x.set(0, 1, 78, true);
