@@ -99,6 +99,10 @@ final class Calls {
         throw new IllegalArgumentException(name);
     }
 
+    Call call(int... arguments) {
+        return new Call(name, arguments, body);
+    }
+
     /** An object in which a change of anything can be seen: no relation is empty or full. */
     static Relationrows filled(int elements) {
         Relationrows x = Made.of(elements);
@@ -157,14 +161,14 @@ final class Calls {
     private Call with(int[] arguments, int place, int... put) {
         int[] a = arguments.clone();
         System.arraycopy(put, 0, a, place, put.length);
-        return new Call(name, a, body);
+        return call(a);
     }
 
     /** The call with the least arguments that it takes, and with the greatest ones. */
     List<Call> accepted(int elements) {
         List<Call> calls = new ArrayList<>();
-        calls.add(new Call(name, allLeast(), body));
-        calls.add(new Call(name, allMost(elements), body));
+        calls.add(call(allLeast()));
+        calls.add(call(allMost(elements)));
         for (int i = 0; i < kinds.length(); i++) {
             calls.add(with(allLeast(), i, most(kinds.charAt(i), elements)));
             calls.add(with(allMost(elements), i, least(kinds.charAt(i))));
