@@ -21,6 +21,10 @@ public final class Relationrows {
     private static final int WITHOUT = 2;
     private static final int JUST_ONE = 3;
 
+    private static final int LEAST_IN = 0;
+    private static final int LEAST_OUT = 1;
+    private static final int GREATEST_OUT = 3;
+
     private static final int OWN_ALL = 0;
     private static final int OWN_NONE = 1;
     private static final int TWO_WAYS = 2;
@@ -240,14 +244,15 @@ public final class Relationrows {
         Relation found = relationAt(relation);
         checkElement(from);
         checkElement(place);
-        if (how < 0 || how > 3) {
+        if (how < LEAST_IN || how > GREATEST_OUT) {
             throw new IllegalArgumentException("how is out of range");
         }
         found.rowInto(from, row);
-        if (how == 1 || how == 3) {
+        if (how == LEAST_OUT || how == GREATEST_OUT) {
             row.invert(0, elements);
         }
-        return how < 2 ? row.leastFrom(place) : row.greatestTo(place);
+        boolean isLeast = how == LEAST_IN || how == LEAST_OUT;
+        return isLeast ? row.leastFrom(place) : row.greatestTo(place);
     }
 
     /** Returns a row as bits: word 0 for the elements 0 to 63, word 1 for those from 64 on. */
